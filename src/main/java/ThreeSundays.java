@@ -1619,9 +1619,8 @@ public final class ThreeSundays {
             }
             int best = 0;
             for (int due = 0; due < PLANS; due++) {
-                int set = open & ~unfinished(due);
-                if (isMarked(reached, due) && isBetter(set, best)) {
-                    best = set;
+                if (isMarked(reached, due)) {
+                    best = better(best, open & ~unfinished(due));
                 }
             }
             return best;
@@ -1639,9 +1638,9 @@ public final class ThreeSundays {
             return index >= 0 && index < plans.length && (plans[index] >> due % BITS & 1) == 1;
         }
 
-        private static boolean isBetter(int set, int best) {
+        private static int better(int best, int set) {
             int more = Integer.bitCount(set) - Integer.bitCount(best);
-            return more > 0 || more == 0 && set < best;
+            return more > 0 || more == 0 && set < best ? set : best;
         }
 
         private static int openPairs(Town town, State state) {
@@ -1677,11 +1676,11 @@ public final class ThreeSundays {
         private void weighSets(Town town, State state) {
             fitting = 0;
             for (int set = 0; set < SETS; set++) {
-                boolean fits = true;
+                boolean room = true;
                 for (int church = 0; church < town.churches; church++) {
-                    fits &= callsIn(town, state, set, church) <= town.calls;
+                    room &= callsIn(town, state, set, church) <= town.calls;
                 }
-                fitting |= fits ? 1 << set : 0;
+                fitting |= room ? 1 << set : 0;
             }
         }
 
