@@ -246,7 +246,7 @@ public final class ModelTest {
             int b;
             int c;
             int d;
-            switch (dice.nextInt(10)) {
+            switch (dice.nextInt(11)) {
                 case 0:
                     a = pair();
                     b = church();
@@ -274,7 +274,7 @@ public final class ModelTest {
                     a = pair();
                     check("settles(" + a + ")", real.settles(a), model.settles(a));
                     break;
-                case 5:
+                case 5: case 10:
                     a = any(2);
                     check("season(" + a + ")", real.season(a), model.season(a));
                     break;
@@ -354,20 +354,22 @@ public final class ModelTest {
             if (dice.nextInt(3) > 0) {
                 settings.add("degree " + dice.nextInt(9));
             }
-            if (dice.nextInt(2) > 0) {
-                settings.add("calls " + (1 + dice.nextInt(dice.nextInt(3) == 0 ? 5 : 2)));
+            // Few calls and early sailings, so that not all can be read in time.
+            boolean tight = dice.nextInt(3) == 0;
+            if (tight || dice.nextInt(2) > 0) {
+                settings.add("calls " + (tight ? 1 : 1 + dice.nextInt(dice.nextInt(3) == 0 ? 5 : 2)));
             }
             if (dice.nextInt(3) > 0) {
                 settings.add("draw " + dice.nextInt(1000));
             }
-            int churchCount = 1 + dice.nextInt(4);
+            int churchCount = 1 + dice.nextInt(tight ? 3 : 4);
             for (int k = 0; k < churchCount; k++) {
                 churches.add(name(churches));
                 line("church " + churches.get(k));
                 maybeSetting(settings);
             }
             int personCount = dice.nextInt(12) == 0 ? dice.nextInt(3) : 3 + dice.nextInt(6);
-            int sailors = dice.nextInt(6);
+            int sailors = dice.nextInt(tight ? 9 : 6);
             for (int k = 0; k < personCount; k++) {
                 String name = name(persons);
                 String line = "person " + name + " in " + pick(churches);
@@ -383,7 +385,7 @@ public final class ModelTest {
                     line += " vow";
                 }
                 if (dice.nextInt(6) < sailors && dice.nextInt(2) == 0) {
-                    line += " sails " + (1 + dice.nextInt(12));
+                    line += " sails " + (tight ? 3 + dice.nextInt(10) : 1 + dice.nextInt(12));
                 }
                 persons.add(name);
                 line(line);
@@ -392,7 +394,7 @@ public final class ModelTest {
             if (persons.size() > 1) {
                 twos("knows ", dice.nextInt(13), true);
                 twos("spites ", dice.nextInt(dice.nextInt(3) == 0 ? 9 : 3), true);
-                twos("pair ", dice.nextInt(8) == 0 ? dice.nextInt(6) : 2 + dice.nextInt(4), false);
+                twos("pair ", tight ? 7 : dice.nextInt(8) == 0 ? dice.nextInt(6) : 2 + dice.nextInt(4), false);
             }
             while (!settings.isEmpty()) {
                 line(settings.remove(0));
@@ -418,7 +420,7 @@ public final class ModelTest {
             for (int k = 0; k < count; k++) {
                 String one = pick(persons);
                 String other = pick(persons);
-                if (one.equals(other) || !seen.add(one + " " + other)) {
+                if (one.equals(other) || !ordered && seen.size() >= 10 || !seen.add(one + " " + other)) {
                     continue;
                 }
                 if (!ordered) {
@@ -485,7 +487,7 @@ public final class ModelTest {
             int times = 1 + dice.nextInt(2);
             for (int k = 0; k < times && b.length() > 0; k++) {
                 int at = dice.nextInt(b.length());
-                switch (dice.nextInt(9)) {
+                switch (dice.nextInt(12)) {
                     case 0: b.deleteCharAt(at); break;
                     case 1: b.insert(at, (char) dice.nextInt(256)); break;
                     case 2: b.setCharAt(at, ";()<>=+-*/% \nabz019$A".charAt(dice.nextInt(21))); break;
@@ -494,10 +496,23 @@ public final class ModelTest {
                     case 5: b.insert(at, " " + dice.nextInt(20000) + " "); break;
                     case 6: b.append("church q;church r;church s;church t;"); break;
                     case 7: swapLines(b); break;
+                    case 8: b.append(lineOf("degree " + dice.nextInt(12), "calls " + dice.nextInt(8), "draw " + dice.nextInt(2000))); break;
+                    case 9: b.append(twoOf("knows ")).append(twoOf("pair ")).append(twoOf("spites ")); break;
+                    case 10: b.append(lineOf("hears " + "(".repeat(5 + dice.nextInt(5)) + e(0, 3), "hears " + "not ".repeat(5 + dice.nextInt(5)) + e(0, 3),
+                            "hears " + e(0, 6) + "+1".repeat(dice.nextInt(30)))); break;
                     default: swapTokens(b); break;
                 }
             }
             return b.toString();
+        }
+
+        String lineOf(String... lines) {
+            return lines[dice.nextInt(lines.length)] + ";";
+        }
+
+        String twoOf(String word) {
+            List<String> from = persons.isEmpty() ? churches : persons;
+            return word + pick(from) + " " + pick(from) + ";";
         }
 
         void swapLines(StringBuilder b) {

@@ -762,6 +762,15 @@ public final class PromisesTest {
         for (int k = 0; k < 45; k++) {
             x.sunday();
         }
+        x.image(0);
+        x.back(0);
+        x.sunday();
+        due("undo()", x.undo(), true);
+        due("about(3)", x.about(3), 45);
+        x = new ThreeSundays();
+        for (int k = 0; k < 45; k++) {
+            x.sunday();
+        }
         due("about(7)", x.about(7), 40);
         for (int k = 0; k < 40; k++) {
             due("undo()", x.undo(), true);
@@ -971,10 +980,20 @@ public final class PromisesTest {
         x.sunday();
         due("season(0) goes on", x.season(0), 4);
         x.sunday();
+        due("season(0) with thirteen readings due", x.season(0), 4);
+        due("season(1) with thirteen readings due", x.season(1), 0b01111);
         x.sunday();
         due("season(1) without the wed", x.season(1), 0b11110);
         x = told(five + "pair a b;pair h i;pair a h;calls 1;");
         due("season(0)", x.season(0), 3);
+        // The same pairs in two churches, and then all in one.
+        x = told(five + "pair a b at c c;pair a f at c c;pair a g at c c;pair b f at d d;pair b g at d d;calls 1;");
+        due("season(0)", x.season(0), 5);
+        x.move(3, 0, 0);
+        due("season(0)", x.season(0), 5);
+        x.move(4, 0, 1);
+        due("season(0)", x.season(0), 4);
+        due("season(1)", x.season(1), 0b01111);
         // Three Sundays are ahead of a sailing on the fourth, two ahead of one on the third.
         x = told("church c;person a in c sails 4;person b in c;person f in c;pair a b;pair b f;pair a f;calls 1;");
         due("season(0)", x.season(0), 2);
