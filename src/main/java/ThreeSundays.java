@@ -1614,7 +1614,7 @@ public final class ThreeSundays {
             int open = openPairs(town, state);
             Arrays.fill(reached, 0);
             mark(reached, readingsDue(state, open));
-            for (int k = 0; k < SUNDAYS_MORE; k++) {
+            for (int k = 0; k < SUNDAYS_MORE && !isMarked(reached, 0); k++) {
                 passSunday(presentPairs(town, open, state.nextSunday() + k));
             }
             int best = 0;
@@ -1700,9 +1700,13 @@ public final class ThreeSundays {
 
         private void passSunday(int present) {
             Arrays.fill(following, 0);
-            for (int due = 0; due < PLANS; due++) {
-                if (isMarked(reached, due)) {
-                    readFrom(due, present & unfinished(due));
+            for (int index = 0; index < reached.length; index++) {
+                int plans = reached[index];
+                for (int bit = 0; bit < BITS && plans != 0; bit++) {
+                    if ((plans >> bit & 1) == 1) {
+                        int due = index * BITS + bit;
+                        readFrom(due, present & unfinished(due));
+                    }
                 }
             }
             int[] spent = reached;

@@ -707,6 +707,22 @@ public final class PromisesTest {
         due("pair(0, 4)", x.pair(0, 4), 1);
         drawsEnd();
         weddingBarsTheNext();
+        lastSunday();
+    }
+
+    // Behind 999 Sundays there is none, but looks ahead go on; that many calls are more than an object is promised for.
+    private static void lastSunday() {
+        ThreeSundays x = told("church c;person a in c;person b in c;person d in c;person f in c;spites f d;"
+                + "pair a b;pair a d;hears (sunday>1001)*10;");
+        for (int k = 1; k <= 999; k++) {
+            due("sunday() " + k, x.sunday(), k == 3 ? 1 : 0);
+        }
+        due("sunday() behind 999", x.sunday(), NONE);
+        due("about(3)", x.about(3), 999);
+        due("about(7)", x.about(7), 40);
+        due("will(1, 2, 1)", x.will(1, 2, 1), 1001);
+        due("will(1, 3, 0)", x.will(1, 3, 0), 2);
+        due("settles(1)", x.settles(1), 3);
     }
 
     // Whoever rises first leaves the others without a draw, and a rest alike to the hearing is not less.
