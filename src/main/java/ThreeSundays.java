@@ -669,25 +669,20 @@ public final class ThreeSundays {
                 return true;
             }
             tape.advance();
-            int first = personHere();
+            int first = takePerson(0);
             if (first == NONE) {
                 return false;
             }
             town.family.firstParent[town.persons] = first;
-            tape.advance();
             if (!tape.isWord(Tape.AND)) {
                 return true;
             }
             tape.advance();
-            int second = personHere();
+            int second = takePerson(1 << first);
             if (second == NONE) {
                 return false;
             }
-            if (second == first) {
-                return refuse(REPEATED);
-            }
             town.family.secondParent[town.persons] = second;
-            tape.advance();
             return true;
         }
 
@@ -717,20 +712,15 @@ public final class ThreeSundays {
                 return refuse(MISPLACED);
             }
             tape.advance();
-            int one = personHere();
+            int one = takePerson(0);
             if (one == NONE) {
                 return false;
             }
-            tape.advance();
-            int other = personHere();
+            int other = takePerson(links[one] | 1 << one);
             if (other == NONE) {
                 return false;
             }
-            if (other == one || (links[one] >> other & 1) == 1) {
-                return refuse(REPEATED);
-            }
             links[one] |= 1 << other;
-            tape.advance();
             return true;
         }
 
@@ -739,20 +729,12 @@ public final class ThreeSundays {
                 return refuse(MISPLACED);
             }
             tape.advance();
-            int one = personHere();
+            int one = takePerson(0);
             if (one == NONE) {
                 return false;
             }
-            tape.advance();
-            int other = personHere();
-            if (other == NONE) {
-                return false;
-            }
-            if (other == one || town.isPairTold(one, other)) {
-                return refuse(REPEATED);
-            }
-            tape.advance();
-            return pairPlaces(one, other);
+            int other = takePerson(town.pairedWith(one) | 1 << one);
+            return other != NONE && pairPlaces(one, other);
         }
 
         private boolean pairPlaces(int one, int other) {
@@ -810,8 +792,17 @@ public final class ThreeSundays {
             return found == NONE || refuse(REPEATED);
         }
 
-        private int personHere() {
-            return nameHere(town.findPerson(tape.letters));
+        private int takePerson(int repeated) {
+            int found = nameHere(town.findPerson(tape.letters));
+            if (found == NONE) {
+                return NONE;
+            }
+            if ((repeated >> found & 1) == 1) {
+                refuse(REPEATED);
+                return NONE;
+            }
+            tape.advance();
+            return found;
         }
 
         private int takeChurch() {
@@ -1112,13 +1103,14 @@ public final class ThreeSundays {
             return find(personNames, persons, name);
         }
 
-        boolean isPairTold(int one, int other) {
+        int pairedWith(int person) {
+            int mask = 0;
             for (int pair = 0; pair < pairs; pair++) {
-                if (pairMask(pair) == (1 << one | 1 << other)) {
-                    return true;
+                if ((pairMask(pair) >> person & 1) == 1) {
+                    mask |= pairMask(pair);
                 }
             }
-            return false;
+            return mask;
         }
 
         int pairMask(int pair) {
