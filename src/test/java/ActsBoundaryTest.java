@@ -95,6 +95,11 @@ public final class ActsBoundaryTest {
         x.undo();
         Ledger.due(x.person(0, 7), NONE);
         Ledger.due(x.person(7, 7), NONE);
+        for (int pair = 0; pair < 4; pair++) {
+            x.licence(pair);
+            Ledger.due(x.person(2 * pair, 7), 2 * pair + 1);
+            Ledger.due(x.person(2 * pair + 1, 7), 2 * pair);
+        }
 
         Ledger.sentence(6, "what 0: where he SITS, 1: the CHURCH in which he was told");
         x.sit(0, 3);
@@ -156,7 +161,11 @@ public final class ActsBoundaryTest {
             Ledger.due(x.pair(0, what), NONE);
             Ledger.due(x.pair(3, what), NONE);
         }
+        for (int pair = 0; pair < 4; pair++) {
+            Ledger.due(x.pair(pair, 8), 1);
+        }
         x = Probe.of(Probe.FULL);
+        Ledger.due(x.pair(3, 8), 1);
         int[] last = {0, 7, 0, 3, 0, 0, 0, 0, 0};
         for (int what = 0; what < last.length; what++) {
             Ledger.due(x.pair(4, what), last[what]);
@@ -283,6 +292,17 @@ public final class ActsBoundaryTest {
         Ledger.due(x.degree(5, 2), 2);
         Ledger.due(x.degree(4, 0), NONE);
         Ledger.due(x.degree(2, 5), 2);
+        // The nearer parent told first or second; the nearer ancestor told first or last.
+        x = Probe.of("church c;person a in c;person b in c of a;person d in c of a and b;person f in c of b and a;person g in c of d;person h in c of a and g;");
+        Ledger.due(x.degree(2, 0), 1);
+        Ledger.due(x.degree(3, 0), 1);
+        Ledger.due(x.degree(2, 3), 2);
+        Ledger.due(x.degree(5, 0), 1);
+        Ledger.due(x.degree(0, 5), 1);
+        x = Probe.of("church c;person a in c;person b in c;person d in c of b;person f in c of b;person g in c of a and d;person h in c of a and f;");
+        Ledger.due(x.degree(4, 5), 2);
+        x = Probe.of("church c;person b in c;person a in c;person d in c of b;person f in c of b;person g in c of d and a;person h in c of f and a;");
+        Ledger.due(x.degree(4, 5), 2);
         x = Probe.of("church c;person a in c;person b in c of a;person d in c of a;person f in c of b;person g in c of d;"
                 + "person h in c of f;person i in c of g;person j in c of h;");
         Ledger.due(x.degree(7, 6), 7);
@@ -641,6 +661,11 @@ public final class ActsBoundaryTest {
         readingsAfterSunday(x, 1, 1, 0);
         x = Probe.of(town + "pair a b at c d;pair a f at d c;pair g b at d d;calls 3;");
         readingsAfterSunday(x, 1, 1, 1);
+        // Either of two that is full is enough, and the other is not used up by it.
+        x = Probe.of(town + "pair a b at c c;pair a f at d c;pair g b at d d;calls 1;");
+        readingsAfterSunday(x, 1, 0, 1);
+        x = Probe.of(town + "pair a b at d d;pair a f at d c;pair g b at c c;calls 1;");
+        readingsAfterSunday(x, 1, 0, 1);
         // One who sails on the third is read on the second still, and on the third leaves his call to others.
         x = Probe.of(town + "pair a f at c c;pair g b at c c;calls 1;");
         readingsAfterSunday(x, 1, 0);

@@ -88,6 +88,13 @@ public final class LooksBoundaryTest {
         quietIs(x, 1, 1, 1, 32);
         quietIs(x, 0, 1, 1, 160);
         quietIs(x, 1, 0, 1, 160);
+        // The first person and the last.
+        x = Probe.of("church c;person z in c;person a in c;person b in c;spites z b;pair a b;hears 3;");
+        quietIs(x, 0, 0, 7, 10);
+        hushIs(x, 0b001);
+        x = Probe.of(EIGHT + "spites a d;spites j d;pair b d;hears 4;");
+        quietIs(x, 0, 0, 9, 25);
+        hushIs(x, 0b10000001);
         // None who would rise, and none at all but the two.
         x = Probe.of("church c;person a in c;person b in c;pair a b;");
         quietIs(x, 0, 0, 1, 1);
@@ -462,6 +469,14 @@ public final class LooksBoundaryTest {
         x.sunday();
         Ledger.due(x.pair(1, 8), 0);
         seasonIs(x, 0b10);
+        for (int sails = 4; sails <= 8; sails++) {
+            x = Probe.of("church c;person a in c;person b in c;person d in c sails " + sails + ";person f in c;pair a b;pair a d;pair d f at c c;");
+            for (int k = 1; k < sails; k++) {
+                x.sunday();
+            }
+            Ledger.due(x.pair(1, 4), sails - 1);
+            seasonIs(x, 0b010);
+        }
     }
 
     private static void seasonChurches() {
@@ -477,6 +492,15 @@ public final class LooksBoundaryTest {
         seasonIs(Probe.of(town + "pair a b at c k;pair a d at k c;calls 1;"), 0b01);
         seasonIs(Probe.of(town + "pair a b at c c;pair a d at k k;calls 1;"), 0b11);
         seasonIs(Probe.of(town + "pair a b at c k;pair a d at c c;pair a f at k k;calls 1;"), 0b110);
+        // By where they are read now, and by the town that is told now.
+        Probe moved = Probe.of(town + "pair a b at c c;pair a d at k k;calls 1;");
+        seasonIs(moved, 0b11);
+        moved.move(1, 0, 0);
+        seasonIs(moved, 0b01);
+        moved.undo();
+        seasonIs(moved, 0b11);
+        moved.tell(town + "pair a b;pair a d;calls 1;");
+        seasonIs(moved, 0b01);
         // Twice on one Sunday would do.
         seasonIs(Probe.of("church c;person a in c sails 3;person b in c;pair a b;calls 5;"), 0);
         // Kin, a vow and spite are nothing to it, nor is a wedding.
@@ -494,6 +518,8 @@ public final class LooksBoundaryTest {
         seasonIs(Probe.of(town + "pair b d;pair a f;pair a g;calls 1;"), 0b010);
         seasonIs(Probe.of(town + "pair b d;pair b f;pair b g;pair b h;pair a b;calls 1;"), 0);
         seasonIs(Probe.of(town + "pair b d;pair b f;pair b g;pair b h;pair a d;calls 1;"), 0b10000);
+        // The first or the second; with the first the third is read twice beside it, which is no more than not at all.
+        seasonIs(Probe.of(town + "pair a d at c c;pair a f at c k;pair b g at k k;calls 1;"), 0b001);
         // More are better than lesser bits: one in both churches keeps out two.
         seasonIs(Probe.of(town + "pair a d at c k;pair a f at c c;pair a g at k k;calls 1;"), 0b110);
         seasonIs(Probe.of(town + "pair a d at c k;pair a f at c c;calls 1;"), 0b01);

@@ -1,4 +1,5 @@
 import java.util.List;
+import java.util.Random;
 
 /** Promises 1 to 5 and the text of a town: each sentence that names a bound, by a new object that comes to it. */
 public final class TownBoundaryTest {
@@ -36,6 +37,7 @@ public final class TownBoundaryTest {
         nesting();
         firstFault();
         cutLines();
+        linesEndedTooEarly();
         faultsOfEachKind();
         townIsTold();
         townWithFault();
@@ -284,6 +286,30 @@ public final class TownBoundaryTest {
         x = sound("church a;church aa;church aaaaaaa;church aaaaaaaa;person a in aaaaaaaa;person aa in a;");
         Ledger.due(x.person(0, 0), 3);
         Ledger.due(x.person(1, 0), 0);
+        unlikeNames();
+    }
+
+    /** Names are alike by all their letters and by nothing less. */
+    private static void unlikeNames() {
+        Random dice = new Random(7);
+        for (int k = 0; k < 400; k++) {
+            String one = name(dice, 1 + dice.nextInt(3));
+            String other = k % 4 == 0 ? new StringBuilder(one).reverse().toString() : name(dice, 1 + dice.nextInt(3));
+            String text = "church y" + one + ";church y" + other + ";";
+            if (one.equals(other)) {
+                faulty(text, 3, 8 + one.length() + 9 - 1);
+            } else {
+                Ledger.due(sound(text).about(1), 2);
+            }
+        }
+    }
+
+    private static String name(Random dice, int length) {
+        StringBuilder letters = new StringBuilder();
+        for (int k = 0; k < length; k++) {
+            letters.append((char) ('a' + dice.nextInt(26)));
+        }
+        return letters.toString();
     }
 
     private static void numbers() {
@@ -674,6 +700,26 @@ public final class TownBoundaryTest {
         }
     }
 
+    private static void linesEndedTooEarly() {
+        Ledger.sentence(5, "one that can't stand there");
+        List<String> begun = List.of("church", "person", "person r", "person r in", "person r in c of", "person r in c of p and",
+                "person r in c sails", "person r in c vow sails", "knows", "knows p", "spites", "spites p", "pair", "pair p", "pair p q at",
+                "pair p q at c", "hears", "hears 1+", "hears 1-", "hears 1*", "hears 1/", "hears 1%", "hears 1<", "hears 1>", "hears 1=",
+                "hears 1 or", "hears 1 and", "hears not", "hears (", "hears (1", "hears (1)+", "degree", "calls", "draw");
+        for (String line : begun) {
+            faulty(TWO + line + ";", 2, TWO.length() + line.length());
+            faulty(TWO + line, 2, TWO.length() + line.length());
+        }
+        for (String joint : new String[] {"and", "or", "+", "-", "*", "/", "%", "<", ">", "=", ")"}) {
+            faulty("hears " + joint + " 1;", 2, 6);
+            faulty("hears 1+" + joint + " 1;", 2, 8);
+            faulty("hears 1<" + joint + " 1;", 2, 8);
+            faulty("hears 1 or " + joint + " 1;", 2, 11);
+            faulty("hears not " + joint + " 1;", 2, 10);
+            faulty("hears (" + joint + " 1);", 2, 7);
+        }
+    }
+
     private static void faultsOfEachKind() {
         Ledger.sentence(5, "3 a NAME told already (of its sort), a parent told twice, two of knows, spites, a pair that are one, "
                 + "or told already (each at the second NAME)");
@@ -756,22 +802,35 @@ public final class TownBoundaryTest {
 
     private static void nothingIsLeft() {
         String rich = "church c;church d;person a in d vow sails 1;person b in c of a;person f in d of a and b;person g in c;"
-                + "knows a g;spites g a;spites a b;pair a b at d d;pair f g;degree 8;calls 5;draw 77;hears 3;";
-        String plain = "church c;church d;person a in c;person b in c;person f in c;person g in c;pair a b;pair f g;";
-        Probe x = Probe.of(rich);
-        x.tell(plain);
-        Ledger.alike("town()", x, Probe.of(plain));
-        // Nor is anything left of a text with a fault.
-        x = new Probe();
-        x.put(rich + "$");
-        Ledger.due(x.town(), NONE);
-        x.tell(plain);
-        Ledger.alike("town()", x, Probe.of(plain));
-        x = new Probe();
-        x.put("church c;church d;person a in d vow sails 0;");
-        Ledger.due(x.town(), NONE);
-        x.tell(plain);
-        Ledger.alike("town()", x, Probe.of(plain));
+                + "knows a g;spites g a;spites a b;pair a b at d d;pair f g;degree 8;calls 1;draw 77;hears 3;";
+        // The usual degree bars the first of these and not the second, and the usual calls leave the third over.
+        String plain = "church c;church d;person a in c;person b in c of a;person f in c of b;person g in c of f;person h in c of g;"
+                + "person i in c of h;pair a h;pair a i;pair b i;";
+        String full = Probe.FULL + "degree 0;calls 5;hears 1" + many("+1", 29) + ";";
+        for (String before : new String[] {rich, full}) {
+            Probe x = Probe.of(before);
+            x.tell(plain);
+            Ledger.alike("town()", x, Probe.of(plain));
+            x = Probe.of(before);
+            x.tell(plain);
+            x.tell(plain);
+            Ledger.alike("town() twice", x, Probe.of(plain));
+            x = Probe.of(before);
+            x.tell("");
+            Ledger.alike("town() of nothing", x, new Probe());
+            x = Probe.of(before);
+            x.tell("");
+            x.tell("");
+            Ledger.alike("town() of nothing twice", x, new Probe());
+            // Nor is anything left of a text with a fault.
+            for (String fault : new String[] {"$", "church", "person k in c vow sails 0;", "person k in c of a and z;"}) {
+                x = new Probe();
+                x.put(before + fault);
+                Ledger.due(x.town(), NONE);
+                x.tell(plain);
+                Ledger.alike("town() behind a fault", x, Probe.of(plain));
+            }
+        }
     }
 
     private static void townWithFault() {
