@@ -750,6 +750,32 @@ public final class ActsBoundaryTest {
         x = Probe.of(town + "spites f b;pair a f;pair b g at c c;calls 1;hears 0;");
         x.sunday();
         Ledger.due(x.about(4), 0);
+        // All that are read on it are read till its end, though one is void by then, or wed.
+        String four = "church c;person a in c;person b in c;person f in c;person g in c;person h in c;";
+        x = Probe.of(four + "spites h a;spites h g;pair a b;pair f g;hears (read=2)*10;");
+        x.sunday();
+        Ledger.due(x.about(6), 0b11);
+        Ledger.due(x.about(4), 798);
+        x = Probe.of(four + "spites h g;pair a b;pair f g;hears (sunday=3)*(read=2)*10;");
+        x.sunday();
+        x.sunday();
+        Ledger.due(x.sunday(), 0b01);
+        Ledger.due(x.about(6), 0b10);
+        // Who knows one of the wed pair's persons would rise against the other pair on that same Sunday, but not ahead of it.
+        x = Probe.of(four + "knows h g;pair a b;pair a g;");
+        x.sunday();
+        x.sunday();
+        Ledger.due(x.about(4), 0);
+        Ledger.due(x.pair(1, 7), 0);
+        Ledger.due(x.sunday(), 0b01);
+        Ledger.due(x.about(6), 0b10);
+        Ledger.due(x.about(4), 71);
+        x = Probe.of(four + "knows h g;pair a g;pair a b;");
+        x.sunday();
+        x.sunday();
+        Ledger.due(x.sunday(), 0b01);
+        Ledger.due(x.pair(1, 5), 0);
+        Ledger.due(x.about(4), 0);
         // The lower number draws first: he of c hears with 9 and rises, then with 0 and leaves it to him of d.
         x = Probe.of(town + "spites f a;spites g a;pair a b;hears seated*seated*seated-18;");
         x.sunday();

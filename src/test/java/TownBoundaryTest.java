@@ -72,6 +72,9 @@ public final class TownBoundaryTest {
     // ------------------------------------------------------------------ promises 1 to 3
 
     private static void emptyTown() {
+        Ledger.sentence(1, "The constants: `NONE = -1`: There is none.");
+        Ledger.due(ThreeSundays.NONE, -1);
+
         Ledger.sentence(1, "`ThreeSundays()`: An empty TOWN.");
         Probe x = new Probe();
         for (int what = 0; what <= 12; what++) {
@@ -815,6 +818,11 @@ public final class TownBoundaryTest {
             x.tell(plain);
             x.tell(plain);
             Ledger.alike("town() twice", x, Probe.of(plain));
+            // The same twos may be told in each town anew.
+            x = Probe.of(before);
+            x.tell(before);
+            x.tell(before);
+            Ledger.alike("town() of the same", x, Probe.of(before));
             x = Probe.of(before);
             x.tell("");
             Ledger.alike("town() of nothing", x, new Probe());
