@@ -1,5 +1,4 @@
 import java.util.List;
-import java.util.Random;
 
 /** Promises 1 to 5 and the text of a town: each sentence that names a bound, by a new object that comes to it. */
 public final class TownBoundaryTest {
@@ -292,27 +291,30 @@ public final class TownBoundaryTest {
         unlikeNames();
     }
 
-    /** Names are alike by all their letters and by nothing less. */
+    /** Names are alike by all their letters and by nothing less: each letter in each place, and two that change places. */
     private static void unlikeNames() {
-        Random dice = new Random(7);
-        for (int k = 0; k < 400; k++) {
-            String one = name(dice, 1 + dice.nextInt(3));
-            String other = k % 4 == 0 ? new StringBuilder(one).reverse().toString() : name(dice, 1 + dice.nextInt(3));
-            String text = "church y" + one + ";church y" + other + ";";
-            if (one.equals(other)) {
-                faulty(text, 3, 8 + one.length() + 9 - 1);
-            } else {
-                Ledger.due(sound(text).about(1), 2);
+        for (int place = 0; place < 8; place++) {
+            for (char one = 'a'; one <= 'z'; one++) {
+                for (char other = 'a'; other < one; other++) {
+                    Ledger.due(churches(lettered(place, one), lettered(place, other)), 2);
+                }
+                faulty("church " + lettered(place, one) + ";church " + lettered(place, one) + ";", 3, 23);
             }
         }
+        Ledger.due(churches("ab", "ba"), 2);
+        Ledger.due(churches("abcdefgh", "hgfedcba"), 2);
+        Ledger.due(churches("abcdefgh", "abcdefhg"), 2);
+        Ledger.due(churches("abcdefgh", "bacdefgh"), 2);
     }
 
-    private static String name(Random dice, int length) {
-        StringBuilder letters = new StringBuilder();
-        for (int k = 0; k < length; k++) {
-            letters.append((char) ('a' + dice.nextInt(26)));
-        }
-        return letters.toString();
+    private static int churches(String one, String other) {
+        return sound("church " + one + ";church " + other + ";").about(1);
+    }
+
+    private static String lettered(int place, char letter) {
+        StringBuilder name = new StringBuilder("mmmmmmmm");
+        name.setCharAt(place, letter);
+        return name.toString();
     }
 
     private static void numbers() {
